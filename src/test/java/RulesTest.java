@@ -1,0 +1,170 @@
+import java.io.IOException;
+import java.lang.reflect.Constructor;
+import java.lang.reflect.Field;
+import java.lang.reflect.Method;
+import java.lang.reflect.Modifier;
+import java.nio.file.Files;
+import java.nio.file.Path;
+import java.util.Arrays;
+import java.util.Set;
+import java.util.TreeSet;
+import java.util.regex.Matcher;
+import java.util.regex.Pattern;
+
+/** The public face, and those rules of LANGUAGE.md that can be seen by a look at the file or the class. */
+public final class RulesTest {
+    private static final Due DUE = new Due();
+    private static final Set<String> FACE = new TreeSet<>(Arrays.asList("write(int)", "wipe()", "fault()",
+            "lay()", "hit(int,int,int,int)", "why(int,int,int,int)", "nibble(int,int,int)", "clamp(int,int)",
+            "sharpen(int)", "undo()", "station(int,int)", "hole(int,int)", "hits(int,int,int)",
+            "cell(int,int,int)", "column(int)", "plan(int)", "drawn(int)", "count(int)"));
+
+    public static void main(String[] args) throws IOException {
+        face();
+        innerClasses();
+        source();
+        room();
+        DUE.end();
+    }
+
+    private static void face() {
+        int modifiers = TurretPunch.class.getModifiers();
+        DUE.holds("the class is public and final", Modifier.isPublic(modifiers) && Modifier.isFinal(modifiers));
+        Set<String> seen = new TreeSet<>();
+        for (Method m : TurretPunch.class.getDeclaredMethods()) {
+            String told = m.getName() + "(" + parameters(m.getParameterTypes()) + ")";
+            if (Modifier.isPublic(m.getModifiers())) {
+                seen.add(told);
+                DUE.holds(told + " answers an int, is not static",
+                        m.getReturnType() == int.class && !Modifier.isStatic(m.getModifiers()));
+            } else {
+                DUE.holds(told + " is private", Modifier.isPrivate(m.getModifiers()));
+            }
+        }
+        DUE.holds("the methods are those of the document, not " + seen, seen.equals(FACE));
+        Constructor<?>[] constructors = TurretPunch.class.getDeclaredConstructors();
+        DUE.holds("one constructor, public, without parameters", constructors.length == 1
+                && Modifier.isPublic(constructors[0].getModifiers()) && constructors[0].getParameterCount() == 0);
+        Set<String> constants = new TreeSet<>();
+        for (Field f : TurretPunch.class.getDeclaredFields()) {
+            if (Modifier.isPublic(f.getModifiers())) {
+                constants.add(f.getName());
+            } else {
+                DUE.holds(f.getName() + " is private", Modifier.isPrivate(f.getModifiers()));
+            }
+        }
+        DUE.holds("the constants", constants.equals(new TreeSet<>(Arrays.asList("BAD", "NO", "FULL", "NONE"))));
+        DUE.is("BAD", TurretPunch.BAD, -1);
+        DUE.is("NO", TurretPunch.NO, -2);
+        DUE.is("FULL", TurretPunch.FULL, -3);
+        DUE.is("NONE", TurretPunch.NONE, -4);
+    }
+
+    private static String parameters(Class<?>[] types) {
+        StringBuilder told = new StringBuilder();
+        for (Class<?> type : types) {
+            told.append(told.length() == 0 ? "" : ",").append(type.getName());
+        }
+        return told.toString();
+    }
+
+    private static void innerClasses() {
+        Class<?>[] inner = TurretPunch.class.getDeclaredClasses();
+        DUE.holds("at most twelve classes", inner.length < 12);
+        classFields(TurretPunch.class);
+        for (Class<?> c : inner) {
+            DUE.holds(c.getName() + " is static", Modifier.isStatic(c.getModifiers()));
+            classFields(c);
+            for (Method m : c.getDeclaredMethods()) {
+                DUE.holds(m + " has at most seven parameters", m.getParameterCount() <= 7);
+                DUE.holds(m + " bears no name of the face", FACE.stream()
+                        .noneMatch(f -> f.startsWith(m.getName() + "(")));
+            }
+        }
+    }
+
+    private static void classFields(Class<?> c) {
+        int fields = 0;
+        for (Field f : c.getDeclaredFields()) {
+            if (Modifier.isStatic(f.getModifiers())) {
+                DUE.holds(f + " is final", Modifier.isFinal(f.getModifiers()));
+            } else {
+                fields++;
+            }
+        }
+        DUE.holds(c.getName() + " has at most twenty fields", fields <= 20);
+    }
+
+    private static void source() throws IOException {
+        String all = Files.readString(Path.of("src/main/java/TurretPunch.java"));
+        DUE.holds("signs 1 to 126 alone", all.chars().allMatch(sign -> sign >= 1 && sign <= 126));
+        String code = all.replaceAll("(?s)/\\*.*?\\*/", "").replaceAll("//[^\n]*", "")
+                .replaceAll("\"[^\"\n]*\"", "TEXT").replaceAll("'[^'\n]*'", "LETTER");
+        String[] never = {"\\bthrow\\b", "\\bthrows\\b", "\\btry\\b", "\\bcatch\\b", "\\bsynchronized\\b",
+            "\\bassert\\b", "->", "::", "\\bpackage\\b", "\\bprotected\\b", "Exact\\b", "\\bSystem\\.(?!arraycopy)",
+            "\\bRandom\\b", "\\bThread\\b", "\\bObject\\b", "@", "\\bnative\\b", "\\bvar\\b", "TEXT\\s*\\+",
+            "\\+\\s*TEXT", "\\bString\\.", "while\\s*\\(\\s*true", "for\\s*\\(\\s*;"};
+        for (String word : never) {
+            DUE.holds("there is no " + word, !Pattern.compile(word).matcher(code).find());
+        }
+        Matcher imports = Pattern.compile("import ([^;]*);").matcher(code);
+        while (imports.find()) {
+            DUE.holds("may be imported: " + imports.group(1), Arrays.asList("java.util.Arrays",
+                    "java.util.ArrayList", "java.util.List", "java.util.Iterator").contains(imports.group(1)));
+        }
+        methodLengths(code.split("\n"));
+    }
+
+    private static void methodLengths(String[] lines) {
+        int start = -1;
+        String end = "";
+        for (int i = 0; i < lines.length; i++) {
+            Matcher head = Pattern.compile("^( {4}| {8})\\w[^=;]*\\([^;]*\\{$").matcher(lines[i]);
+            if (start < 0 && head.find() && !lines[i].contains(" class ")) {
+                start = i;
+                end = head.group(1) + "}";
+            } else if (start >= 0 && lines[i].equals(end)) {
+                DUE.holds("at most sixty lines:" + lines[start], i - start < 60);
+                start = -1;
+            }
+        }
+    }
+
+    /** What is made is made by the constructor: the calls themselves make nothing. */
+    private static void room() {
+        com.sun.management.ThreadMXBean bean = (com.sun.management.ThreadMXBean)
+                java.lang.management.ManagementFactory.getThreadMXBean();
+        long thread = Thread.currentThread().getId();
+        TurretPunch punch = new TurretPunch();
+        everyCall(punch);
+        long before = bean.getThreadAllocatedBytes(thread);
+        for (int i = 0; i < 1000; i++) {
+            everyCall(punch);
+        }
+        long made = bean.getThreadAllocatedBytes(thread) - before;
+        DUE.holds("18000 calls make nothing, not " + made + " bytes", made < 20000);
+    }
+
+    private static void everyCall(TurretPunch punch) {
+        punch.write('x');
+        punch.fault();
+        punch.wipe();
+        punch.lay();
+        punch.hit(0, 1, 1, 0);
+        punch.why(0, 1, 1, 0);
+        punch.nibble(1, 2, 0);
+        punch.clamp(0, 3);
+        punch.sharpen(0);
+        punch.station(0, 6);
+        punch.hole(0, 4);
+        punch.hits(0, 0, 0);
+        punch.cell(1, 1, 2);
+        punch.column(0);
+        punch.plan(-1);
+        punch.drawn(80);
+        punch.count(9);
+        for (int i = 0; i < 4; i++) {
+            punch.undo();
+        }
+    }
+}
