@@ -259,7 +259,7 @@ public final class TurretPunch {
         return true;
     }
 
-    /** NIBBLES on the trial: how many HITS it made, 0 if it can not be or one is refused. */
+    /** NIBBLES a HOLE on the trial: how many HITS, 0 if it can not be or one is refused. */
     private int punchAll(Area hole, int s, boolean turned) {
         Tool tool = laid.tools[s];
         if (tool.hitsFor(hole, turned) == 0) {
@@ -627,7 +627,7 @@ public final class TurretPunch {
         }
     }
 
-    /** All that changes become another by: what is kept to be UNDONE. */
+    /** All that a change can change, in one place so that a change is UNDONE by a copy. */
     private static final class State {
         /** For each row a bit for each CELL that is cut. */
         final int[] cut = new int[MOST_SIDE];
@@ -798,7 +798,7 @@ public final class TurretPunch {
      * used does no harm: the set of those that are used tells the same ways with no more TURNS.
      */
     private static final class Planner {
-        /** For HOLE and STATION the fewest HITS, 0 if it can not be; and whether these are turned. */
+        /** For HOLE and STATION the fewest HITS, 0 if it can not be, and the way of these as plan tells it. */
         private final int[] fewest = new int[MOST_HOLES * MOST_STATIONS];
         private final int[] ways = new int[MOST_HOLES * MOST_STATIONS];
         private final int[] tried = new int[MOST_HOLES];

@@ -66,13 +66,13 @@ public final class ModelTest {
         int w = from(3, 12);
         int h = from(3, 12);
         StringBuilder text = new StringBuilder("sheet " + w + "," + h + ";");
-        int tools = from(1, 6);
+        int tools = from(1, chance(10) ? 7 : 6);
         for (int i = 0; i < tools; i++) {
             int side = chance(3) ? 6 : 3;
             int life = chance(2) ? 99 : from(1, 9);
             text.append("tool " + from(1, side) + "," + from(1, side) + "," + from(0, 1) + "," + life + ";");
         }
-        int holes = from(0, 5);
+        int holes = from(0, chance(5) ? 9 : 5);
         boolean[][] taken = new boolean[12][12];
         for (int i = 0; i < holes; i++) {
             hole(text, taken, w, h);
@@ -179,7 +179,9 @@ public final class ModelTest {
         }
         int turned = small(1);
         String told = "(" + s + ", " + x + ", " + y + ", " + turned + ")";
-        same("why" + told, punch.why(s, x, y, turned), model.why(s, x, y, turned));
+        if (chance(2)) {
+            same("why" + told, punch.why(s, x, y, turned), model.why(s, x, y, turned));
+        }
         same("hit" + told, punch.hit(s, x, y, turned), model.hit(s, x, y, turned));
     }
 

@@ -713,6 +713,8 @@ public final class PromisesTest {
                 + "hole 0,0,1,5;hole 2,0,5,1;hole 2,2,1,4;"), 4, 2, 6, 4, 6);
         planIs("to both sides, the nearer first", Due.laid("sheet 9,9;tool 6,6,0,9;tool 1,5,0,9;tool 6,6,0,9;"
                 + "tool 6,6,0,9;tool 5,1,0,9;tool 6,6,0,9;hole 0,0,1,5;hole 2,0,5,1;"), 2, 4, 2, 8);
+        planIs("the first hole decides, not the second", Due.laid("sheet 9,9;tool 1,2,0,9;tool 1,4,0,9;tool 2,1,0,9;"
+                + "tool 6,6,0,9;tool 4,1,0,9;tool 6,6,0,9;hole 0,0,1,4;hole 2,0,4,1;"), 3, 2, 0, 8);
         TurretPunch here = Due.laid("sheet 9,9;tool 1,1,0,9;tool 1,1,0,9;hole 0,0,2,1;hole 0,2,2,1;");
         planIs("from 0", here, 4, 0, 0, 0);
         here.hit(1, 0, 0, 0);
