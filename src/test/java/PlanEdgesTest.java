@@ -194,6 +194,10 @@ public final class PlanEdgesTest {
         plan(laid(tools + "hole 0,0,1,5;hole 2,0,5,1;"), 2, 1, 0, 2);
         plan(laid(tools + "hole 2,0,5,1;hole 0,0,1,5;"), 2, 1, 2, 0);
         plan(laid(tools + "hole 0,0,1,5;hole 2,0,5,1;").is(1, "nibble", 0, 0, 0), 1, 1, NONE, 2);
+        // both stations are come to for a hole each, and the third can be by either
+        String either = "sheet 9,9;tool 1,4,0,9;tool 4,1,0,9;";
+        plan(laid(either + "hole 0,0,1,4;hole 2,0,4,1;hole 2,2,4,4;"), 6, 1, 0, 2, 0);
+        plan(laid(either + "hole 2,2,4,4;hole 2,0,4,1;hole 0,0,1,4;"), 6, 1, 0, 2, 0);
         // by station 0 and 4 or by 1 and 2, as many hits and turns: the first hole decides
         String both = "sheet 9,9;tool 1,2,0,9;tool 1,4,0,9;tool 2,1,0,9;tool 6,6,0,9;tool 4,1,0,9;tool 6,6,0,9;";
         plan(laid(both + "hole 0,0,1,4;hole 2,0,4,1;"), 3, 2, 0, 8);

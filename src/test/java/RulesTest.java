@@ -24,6 +24,7 @@ public final class RulesTest {
         innerClasses();
         source();
         room();
+        neverThrows();
         DUE.end();
     }
 
@@ -143,6 +144,37 @@ public final class RulesTest {
         }
         long made = bean.getThreadAllocatedBytes(thread) - before;
         DUE.holds("18000 calls make nothing, not " + made + " bytes", made < 20000);
+    }
+
+    /** Each call with every choice of these numbers, on a fresh and a full object; an exception would end the test. */
+    private static void neverThrows() {
+        for (String told : FACE) {
+            int open = told.indexOf('(');
+            int parameters = told.substring(open).split("int", -1).length - 1;
+            tryAll(told.substring(0, open), parameters, "");
+            tryAll(told.substring(0, open), parameters, "sheet 3,12;" + "tool 6,1,1,9;".repeat(6)
+                    + "hole 0,0,3,1;hole 0,1,3,1;hole 0,2,1,6;hole 1,2,1,9;hole 2,2,1,10;clamp 1;");
+        }
+    }
+
+    private static void tryAll(String name, int parameters, String text) {
+        int[] numbers = {Integer.MIN_VALUE, -2, -1, 0, 1, 5, 6, 12, 99, 100, Integer.MAX_VALUE};
+        int choices = (int) Math.pow(numbers.length, parameters);
+        TurretPunch punch = null;
+        for (int choice = 0; choice < choices; choice++) {
+            if (choice % 300 == 0) {
+                punch = new TurretPunch();
+                Due.tell(punch, text);
+                punch.lay();
+            }
+            int[] args = new int[parameters];
+            int rest = choice;
+            for (int i = 0; i < parameters; i++) {
+                args[i] = numbers[rest % numbers.length];
+                rest /= numbers.length;
+            }
+            DUE.holds("an answer of " + name, new Call(name, args).on(punch) >= -4);
+        }
     }
 
     private static void everyCall(TurretPunch punch) {
