@@ -481,7 +481,7 @@ public final class PromisesTest {
         is("11 the first two stay", p.count(8), 2);
         is("11 goes on", p.hit(2, 3, 1, 0), 1);
         is("11 refused is no change", p.hit(2, 3, 1, 0), NO);
-        is("11 asked is no change", p.why(2, 4, 1, 0) + p.plan(-1) * 0, 0);
+        is("11 asked is no change", p.why(2, 4, 1, 0), 0);
         is("11 the one", p.undo(), 0);
         TurretPunch q = new TurretPunch();
         for (int i = 0; i < 20; i++) {
